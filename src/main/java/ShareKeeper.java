@@ -395,6 +395,14 @@ public final class ShareKeeper {
             return total(bad, low, high);
         }
 
+        int asksAt(int tick) {
+            return tick >= 0 && tick < ALL_TICKS ? asks[tick] : 0;
+        }
+
+        int badAt(int tick) {
+            return tick >= 0 && tick < ALL_TICKS ? bad[tick] : 0;
+        }
+
         int toComeIn(int low, int high, int now) {
             int all = 0;
             for (int tick = Math.max(low, 0); tick <= high && tick <= LAST_TICK; tick++) {
@@ -599,11 +607,11 @@ public final class ShareKeeper {
         }
 
         private int asksAt(int tick) {
-            return isIn(tick) ? service.asksIn(tick, tick) : 0;
+            return isIn(tick) ? service.asksAt(tick) : 0;
         }
 
         private int badAt(int tick) {
-            return isIn(tick) ? service.badIn(tick, tick) : 0;
+            return isIn(tick) ? service.badAt(tick) : 0;
         }
 
         private int toCome(int tick, int now) {

@@ -10,6 +10,9 @@ public final class AlarmsTest {
         best();
         bestOfEqual();
         bestByCounts();
+        bestOfLongSpans();
+        bestWithoutSlack();
+        bestAnew();
         bestRefusals();
         Check.finish();
     }
@@ -177,6 +180,44 @@ public final class AlarmsTest {
         x.count(0, 1, 1, 88, 12);
         Check.due("tick 1 may keep still", x.best(0, 5, 5, 5), 1001020);
         Check.due("for another history", x.best(0, 0, 10, 10), 1001020);
+    }
+
+    /** Good asks just a span ahead of the bad ones: only a span that reaches them keeps still. */
+    private static void bestOfLongSpans() {
+        ShareKeeper x = keeper(900);
+        x.ticks(30);
+        x.count(0, 0, 20, 0, 10);
+        x.count(0, 1, 9, 90, 0);
+        Check.due("the longest span", x.best(0, 100, 2, 14), 12001010);
+        Check.due("it lets 14 pass", x.best(0, 100, 2, 13), 1001010);
+        x.count(0, 2, 19, 90, 0);
+        Check.due("a span of two", x.best(0, 100, 2, 4), 2001010);
+        Check.due("it lets 4 pass", x.best(0, 100, 2, 3), 1001010);
+        x.count(0, 3, 21, 0, 1);
+        Check.due("one ring is fewer than two", x.best(0, 100, 2, 4), 2001010);
+    }
+
+    private static void bestWithoutSlack() {
+        ShareKeeper x = keeper(1000);
+        x.count(0, 0, 0, 999, 1);
+        Check.due("any bad one rings", x.best(0, 5, 1, 1), 1001010);
+        Check.due("but it must come", x.best(0, 5, 0, 1), Check.NONE);
+        ShareKeeper y = keeper(0);
+        Check.due("with share 0 no rate from 1.0 on rings", y.best(0, 5, 10, 100000), Check.NONE);
+    }
+
+    /** What one search has counted is not left over for the next. */
+    private static void bestAnew() {
+        ShareKeeper x = keeper(900);
+        x.service();
+        x.promise(1, 10, 900, false);
+        x.ticks(30);
+        x.count(0, 0, 20, 0, 10);
+        x.count(0, 1, 19, 90, 0);
+        Check.due("of one service", x.best(0, 100, 2, 4), 2001010);
+        Check.due("of another", x.best(1, 100, 2, 4), 1001010);
+        Check.due("with less to pass", x.best(0, 100, 2, 2), 1001010);
+        Check.due("with too little to pass", x.best(0, 100, 2, 1), Check.NONE);
     }
 
     private static void bestRefusals() {
