@@ -36,6 +36,7 @@ public final class PartsTest {
         Check.due("desk(8)", x.desk(8), 10);
         Check.due("made of ten", x.made(100000, 10, 1), 100000);
         Check.due("again the first", x.part(1), 1);
+        Check.due("the parts of old are gone", x.made(5, 1, 1), 1);
     }
 
     private static void ordinary() {
