@@ -1,11 +1,23 @@
-/** Promises 11 and 12: parts, and the whole that is made of them. */
+/** Promises 11 and 12: parts, the whole that is made of them, and what Terms 3 says of it. */
 public final class PartsTest {
     public static void main(String[] args) {
         parts();
-        ordinary();
-        none();
+        anotherNumber();
+        partsFull();
+        least();
+        greatest();
+        allMustBeGood();
+        oneMustBeGood();
+        noAsks();
         greatNumbers();
         allWays();
+        noneAreLeft();
+        noParts();
+        wrongK();
+        anotherWhat();
+        anotherN();
+        morePartsThanN();
+        goneInEachCase();
         Check.finish();
     }
 
@@ -14,76 +26,121 @@ public final class PartsTest {
         for (int b : bad) {
             x.part(b);
         }
-        int answer = x.made(n, k, what);
-        Check.due("desk(8) after made", x.desk(8), 0);
-        return answer;
+        return x.made(n, k, what);
+    }
+
+    private static int[] same(int size, int bad) {
+        int[] all = new int[size];
+        java.util.Arrays.fill(all, bad);
+        return all;
     }
 
     private static void parts() {
+        Check.sentence("Promise 11", "A part for made(): so many bad ones (0 .. 100000): how many parts");
         ShareKeeper x = new ShareKeeper();
-        Check.due("-1", x.part(-1), Check.NONE);
-        Check.due("100001", x.part(100001), Check.NONE);
-        for (int wild : Check.WILD) {
-            Check.due("part(" + wild + ")", x.part(wild), Check.NONE);
+        Check.due("0", x.part(0), 1);
+        Check.due("100000", x.part(100000), 2);
+        Check.due("99999", x.part(99999), 3);
+        Check.due("1", x.part(1), 4);
+        Check.due("desk(8)", x.desk(8), 4);
+        Check.due("of the four, all good", x.made(100000, 4, 0), 100000);
+        Check.due("the first again", x.part(5), 1);
+    }
+
+    private static void anotherNumber() {
+        Check.sentence("Promise 11", "NONE: another number");
+        ShareKeeper x = new ShareKeeper();
+        x.part(3);
+        Check.none("part(bad)", bad -> x.part(bad), -1, 100001);
+        Check.due("none came", x.desk(8), 1);
+        Check.due("the next", x.part(4), 2);
+        Check.due("made of 3 and 4", x.made(10, 2, 1), 7);
+    }
+
+    private static void partsFull() {
+        Check.sentence("Promise 11", "NONE: 10 are there");
+        ShareKeeper x = new ShareKeeper();
+        for (int i = 1; i <= 9; i++) {
+            Check.due("part " + i, x.part(1), i);
         }
-        Check.due("least", x.part(0), 1);
-        Check.due("greatest", x.part(100000), 2);
-        for (int i = 3; i <= 10; i++) {
-            Check.due("part", x.part(i), i);
-            Check.due("desk(8)", x.desk(8), i);
-        }
-        Check.due("beyond 10", x.part(1), Check.NONE);
-        Check.due("desk(8)", x.desk(8), 10);
-        Check.due("made of ten", x.made(100000, 10, 1), 100000);
+        Check.due("part 10", x.part(1), 10);
+        Check.due("part 11", x.part(1), Check.NONE);
+        Check.due("part 11 once more", x.part(7), Check.NONE);
+        Check.due("10 are left", x.desk(8), 10);
+        Check.due("made of ten ones", x.made(100, 10, 1), 10);
         Check.due("again the first", x.part(1), 1);
-        Check.due("the parts of old are gone", x.made(5, 1, 1), 1);
     }
 
-    private static void ordinary() {
-        Check.due("all parts must be good, least", made(10, 3, 0, 3, 4, 5), 5);
-        Check.due("all parts must be good, greatest", made(20, 3, 1, 3, 4, 5), 12);
-        Check.due("one of three, greatest", made(10, 1, 1, 3, 4, 5), 3);
-        Check.due("one of three, least", made(10, 1, 0, 8, 7, 6), 1);
-        Check.due("two of three, greatest", made(10, 2, 1, 3, 4, 5), 6);
-        Check.due("two of three, least", made(10, 2, 0, 3, 4, 5), 1);
-        Check.due("one great part", made(10, 2, 1, 9, 1, 1), 2);
+    private static void least() {
+        Check.sentence("Terms 3, Promise 12", "what 0: the least number of asks for which it is bad");
+        Check.due("3 of 3, 4, 5", made(10, 3, 0, 3, 4, 5), 5);
+        Check.due("2 of 3, 4, 5", made(10, 2, 0, 3, 4, 5), 1);
+        Check.due("1 of 3, 4, 5", made(10, 1, 0, 3, 4, 5), 0);
+        Check.due("1 of 8, 7, 6: 21 bad over 10 asks, 2 each", made(10, 1, 0, 8, 7, 6), 1);
+        Check.due("1 of 8, 7, 5: 20 bad over 10 asks, 2 each", made(10, 1, 0, 8, 7, 5), 0);
+        Check.due("2 of 4, 4, 3: 11 bad over 10 asks, 1 each", made(10, 2, 0, 4, 4, 3), 1);
+        Check.due("2 of 4, 4, 2: 10 bad over 10 asks, 1 each", made(10, 2, 0, 4, 4, 2), 0);
         Check.due("one part", made(10, 1, 0, 4), 4);
-        Check.due("no asks", made(0, 1, 1, 0), 0);
-        Check.due("no asks, least", made(0, 1, 0, 0), 0);
-        Check.due("all bad", made(5, 1, 0, 5, 5), 5);
-        Check.due("all good", made(5, 2, 1, 0, 0), 0);
     }
 
-    private static void none() {
-        Check.due("no parts", made(5, 1, 0), Check.NONE);
-        Check.due("k 0", made(5, 0, 0, 1, 1), Check.NONE);
-        Check.due("k above all", made(5, 3, 0, 1, 1), Check.NONE);
-        Check.due("what -1", made(5, 1, -1, 1, 1), Check.NONE);
-        Check.due("what 2", made(5, 1, 2, 1, 1), Check.NONE);
-        Check.due("n -1", made(-1, 1, 0, 0), Check.NONE);
-        Check.due("n 100001", made(100001, 1, 0, 0), Check.NONE);
-        Check.due("a part above n", made(5, 1, 0, 1, 6), Check.NONE);
-        Check.due("a part at n", made(5, 1, 0, 1, 5), 1);
-        for (int wild : Check.WILD) {
-            Check.due("n " + wild, made(wild, 1, 0, 0), Check.NONE);
-            Check.due("k " + wild, made(5, wild, 0, 1), Check.NONE);
-            Check.due("what " + wild, made(5, 1, wild, 1), Check.NONE);
-        }
+    private static void greatest() {
+        Check.sentence("Terms 3, Promise 12", "1: the greatest number of asks for which it is bad");
+        Check.due("3 of 3, 4, 5", made(20, 3, 1, 3, 4, 5), 12);
+        Check.due("3 of 3, 4, 5, but 10 asks", made(10, 3, 1, 3, 4, 5), 10);
+        Check.due("2 of 3, 4, 5: 12 bad, 2 each", made(10, 2, 1, 3, 4, 5), 6);
+        Check.due("2 of 3, 4, 4: 11 bad, 2 each", made(10, 2, 1, 3, 4, 4), 5);
+        Check.due("1 of 3, 4, 5", made(10, 1, 1, 3, 4, 5), 3);
+        Check.due("2 of 9, 1, 1: the 9 cannot meet itself", made(10, 2, 1, 9, 1, 1), 2);
+        Check.due("one part", made(10, 1, 1, 4), 4);
+    }
+
+    private static void allMustBeGood() {
+        Check.sentence("Terms 3", "good for an ask if at least k parts are (k all)");
+        Check.due("all bad ones meet", made(10, 2, 0, 4, 6), 6);
+        Check.due("none meet", made(10, 2, 1, 4, 6), 10);
+        Check.due("none meet, but 9 asks", made(9, 2, 1, 4, 6), 9);
+        Check.due("no bad ones", made(10, 2, 1, 0, 0), 0);
+        Check.due("one part is always bad", made(10, 2, 0, 0, 10), 10);
+        Check.due("ten parts", made(100, 10, 1, same(10, 7)), 70);
+        Check.due("ten parts", made(100, 10, 0, same(10, 7)), 7);
+    }
+
+    private static void oneMustBeGood() {
+        Check.sentence("Terms 3", "good for an ask if at least k parts are (k 1)");
+        Check.due("all bad ones meet", made(10, 1, 1, 4, 6), 4);
+        Check.due("none must meet", made(10, 1, 0, 4, 6), 0);
+        Check.due("one must", made(10, 1, 0, 5, 6), 1);
+        Check.due("all bad", made(5, 1, 0, 5, 5), 5);
+        Check.due("all bad", made(5, 1, 1, 5, 5), 5);
+        Check.due("one is always good", made(5, 1, 1, 5, 0), 0);
+        Check.due("ten parts", made(100, 1, 0, same(10, 90)), 0);
+        Check.due("ten parts", made(99, 1, 0, same(10, 90)), 9);
+    }
+
+    private static void noAsks() {
+        Check.sentence("Promise 12", "of n asks (0 .. 100000) (n 0)");
+        Check.due("least", made(0, 1, 0, 0), 0);
+        Check.due("greatest", made(0, 1, 1, 0), 0);
+        Check.due("greatest of two", made(0, 2, 1, 0, 0), 0);
+        Check.due("a part above 0", made(0, 1, 1, 1), Check.NONE);
     }
 
     private static void greatNumbers() {
-        Check.due("greatest of all", made(100000, 10, 1, 100000, 100000), Check.NONE);
+        Check.sentence("Promise 12", "of n asks (0 .. 100000) (n 100000)");
         Check.due("bad in all", made(100000, 2, 1, 100000, 100000), 100000);
+        Check.due("bad in all", made(100000, 1, 0, 100000, 100000), 100000);
         Check.due("every other", made(100000, 2, 1, 50000, 50000), 100000);
-        Check.due("just less", made(100000, 2, 1, 50000, 49999), 99999);
-        Check.due("five of ten", made(100000, 5, 1, 60000, 60000, 60000, 60000, 60000,
-            60000, 60000, 60000, 60000, 60000), 100000);
-        Check.due("five of ten, least", made(100000, 5, 0, 60000, 60000, 60000, 60000, 60000,
-            60000, 60000, 60000, 60000, 60000), 20000);
+        Check.due("one less", made(100000, 2, 1, 50000, 49999), 99999);
+        Check.due("5 of 10", made(100000, 5, 1, same(10, 60000)), 100000);
+        Check.due("5 of 10, least", made(100000, 5, 0, same(10, 60000)), 20000);
+        Check.due("10 of 10, least", made(100000, 10, 0, same(10, 99999)), 99999);
+        Check.due("1 of 10, least", made(100000, 1, 0, same(10, 99999)), 99990);
+        Check.due("1 of 10, greatest", made(100000, 1, 1, same(10, 99999)), 99999);
     }
 
     /** Small wholes against all the ways in which their bad ones can meet. */
     private static void allWays() {
+        Check.sentence("Terms 3", "Of all ways in which bad ones may meet");
         for (int n = 0; n <= 5; n++) {
             for (int size = 1; size <= 3; size++) {
                 int[] bad = new int[size];
@@ -143,5 +200,83 @@ public final class PartsTest {
             row[i] = 0;
         }
         return false;
+    }
+
+    private static void noneAreLeft() {
+        Check.sentence("Promise 12", "Of a whole made of these parts (none are left then)");
+        ShareKeeper x = new ShareKeeper();
+        x.part(3);
+        x.part(4);
+        Check.due("made", x.made(10, 1, 1), 3);
+        Check.due("desk(8)", x.desk(8), 0);
+        Check.due("of none", x.made(10, 1, 1), Check.NONE);
+        Check.due("the first again", x.part(2), 1);
+        Check.due("those of old are gone", x.made(10, 1, 1), 2);
+    }
+
+    private static void noParts() {
+        Check.sentence("Promise 12", "NONE: no parts");
+        for (int what = 0; what <= 1; what++) {
+            Check.due("k 1", made(5, 1, what), Check.NONE);
+            Check.due("k 0", made(5, 0, what), Check.NONE);
+            Check.due("n 0, k 0", made(0, 0, what), Check.NONE);
+        }
+    }
+
+    private static void wrongK() {
+        Check.sentence("Promise 12", "NONE: k not 1 .. all");
+        for (int what = 0; what <= 1; what++) {
+            int asked = what;
+            Check.none("made(5, k, " + what + ") of 1", k -> made(5, k, asked, 1), 0, 2);
+            Check.none("made(5, k, " + what + ") of 1, 1", k -> made(5, k, asked, 1, 1), 0, 3);
+            Check.none("made(5, k, " + what + ") of ten", k -> made(5, k, asked, same(10, 1)), 0, 11);
+        }
+        Check.due("k 1", made(5, 1, 1, 1, 1), 1);
+        Check.due("k 2", made(5, 2, 1, 1, 1), 2);
+    }
+
+    private static void anotherWhat() {
+        Check.sentence("Promise 12", "NONE: another what");
+        Check.none("made(5, 1, what) of 1, 1", what -> made(5, 1, what, 1, 1), -1, 2);
+    }
+
+    private static void anotherN() {
+        Check.sentence("Promise 12", "of n asks (0 .. 100000); NONE: another n");
+        for (int what = 0; what <= 1; what++) {
+            int asked = what;
+            Check.none("made(n, 1, " + what + ") of 0", n -> made(n, 1, asked, 0), -1, 100001);
+        }
+        Check.due("n 100000", made(100000, 1, 1, 0), 0);
+        Check.due("n 0", made(0, 1, 1, 0), 0);
+    }
+
+    private static void morePartsThanN() {
+        Check.sentence("Promise 12", "NONE: a part with more bad ones than n");
+        for (int what = 0; what <= 1; what++) {
+            Check.due("the first", made(5, 1, what, 6, 1), Check.NONE);
+            Check.due("the last", made(5, 1, what, 1, 6), Check.NONE);
+            Check.due("the tenth", made(5, 1, what, 1, 1, 1, 1, 1, 1, 1, 1, 1, 6), Check.NONE);
+            Check.due("100000 of 99999", made(99999, 1, what, 100000), Check.NONE);
+            Check.due("5 of 5", made(5, 1, what, 5), 5);
+            Check.due("100000 of 100000", made(100000, 1, what, 100000), 100000);
+        }
+        Check.due("5 and 5 of 5, more together", made(5, 2, 1, 5, 5), 5);
+    }
+
+    private static void goneInEachCase() {
+        Check.sentence("Promise 12", "(the parts are gone in each case)");
+        int[][] refused = {{5, 0, 0}, {5, 3, 0}, {5, 1, -1}, {5, 1, 2}, {-1, 1, 0}, {100001, 1, 0}, {3, 1, 0},
+            {5, Integer.MIN_VALUE, 0}, {5, Integer.MAX_VALUE, 1}, {Integer.MAX_VALUE, 1, 1}, {5, 1, Integer.MAX_VALUE}};
+        ShareKeeper x = new ShareKeeper();
+        for (int[] r : refused) {
+            Check.due("a part", x.part(1), 1);
+            Check.due("a part", x.part(4), 2);
+            String call = "made(" + r[0] + ", " + r[1] + ", " + r[2] + ")";
+            Check.due(call, x.made(r[0], r[1], r[2]), Check.NONE);
+            Check.due("desk(8) behind " + call, x.desk(8), 0);
+        }
+        Check.due("of none", x.made(5, 1, 0), Check.NONE);
+        x.part(2);
+        Check.due("of one alone", x.made(5, 1, 1), 2);
     }
 }
