@@ -4,7 +4,9 @@ public final class BestAlarmTest {
         nothingHasCome();
         longSpansTo12();
         shortSpansToA();
+        longestShortSpan();
         ratesFrom10();
+        justAbove();
         ratesTo200();
         ratesByTen();
         ringsInThatHistory();
@@ -77,6 +79,22 @@ public final class BestAlarmTest {
         Check.due("b 2, not a 2 with b 3", y.best(0, 10, 3, 29), 3002020);
     }
 
+    /**
+     * At 13 all spans but that of 12 are above, at 32 all but that of 11: every other pair rings at one of
+     * them. (b 12 with a 12 rings whenever b 1 does, and so is never ahead of it.)
+     */
+    private static void longestShortSpan() {
+        Check.sentence("Terms 4", "of a 1 .. 12, b 1 .. a");
+        ShareKeeper x = keeper(900);
+        x.ticks(45);
+        int[][] counts = {{2, 90, 0}, {13, 0, 10}, {14, 1000, 0}, {20, 9, 0}, {21, 0, 1}, {22, 90, 0},
+            {32, 0, 10}, {33, 1000, 0}};
+        for (int i = 0; i < counts.length; i++) {
+            Check.due("a count", x.count(0, i, counts[i][0], counts[i][1], counts[i][2]), 0);
+        }
+        Check.due("b 11 with a 12", x.best(0, 100, 2, 100), 12011010);
+    }
+
     private static void ratesFrom10() {
         Check.sentence("Terms 4", "r 10, 20, ..");
         ShareKeeper x = keeper(900);
@@ -85,6 +103,17 @@ public final class BestAlarmTest {
         ShareKeeper y = keeper(800);
         Check.due("e 2 is 1.0", y.best(0, 5, 2, 100000), Check.NONE);
         Check.due("e 3 is 1.5", y.best(0, 5, 3, 100000), 1001010);
+        ShareKeeper z = keeper(901);
+        Check.due("e 1 is just above 1.0", z.best(0, 5, 1, 100000), 1001010);
+    }
+
+    private static void justAbove() {
+        Check.sentence("Terms 4", "10000 * bad is above r * (1000 - SHARE) * asks");
+        ShareKeeper x = keeper(999);
+        x.count(0, 0, 0, 998, 1);
+        Check.due("1 bad of 999 is above 1.0", x.best(0, 5, 1, 1), 1001020);
+        x.count(0, 1, 0, 1, 0);
+        Check.due("1 bad of 1000 is not", x.best(0, 5, 1, 1), 1001010);
     }
 
     private static void ratesTo200() {
@@ -130,6 +159,8 @@ public final class BestAlarmTest {
         Check.due("5 of 5", x.best(0, 5, 5, 5), 1001010);
         Check.due("5 of 4", x.best(0, 5, 5, 4), Check.NONE);
         Check.due("5 of 0", x.best(0, 5, 5, 0), Check.NONE);
+        Check.due("10 of 10 from tick 0 on", x.best(0, 0, 10, 10), 1001010);
+        Check.due("10 of 9 from tick 0 on", x.best(0, 0, 10, 9), Check.NONE);
         x.ticks(30);
         x.count(0, 0, 20, 0, 10);
         x.count(0, 1, 9, 90, 0);

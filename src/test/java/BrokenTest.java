@@ -52,6 +52,15 @@ public final class BrokenTest {
         Check.due("10 bad of 100", x.broken(0, 0), Check.NONE);
         x.count(0, 3, 22, 0, 1);
         Check.due("11 bad of 102 at 22, 1 of 1 at 23", x.broken(0, 0), 22);
+        ShareKeeper y = keeper(60, 1000);
+        y.promise(0, 3, 900, false);
+        y.ticks(50);
+        y.count(0, 0, 20, 99, 1);
+        Check.due("1 bad of 100", y.broken(0, 0), Check.NONE);
+        y.count(0, 1, 30, 100, 0);
+        Check.due("0 bad of 100", y.broken(0, 0), Check.NONE);
+        y.count(0, 2, 40, 0, 1);
+        Check.due("1 bad of 1", y.broken(0, 0), 40);
     }
 
     private static void asCountsHaveCome() {

@@ -17,6 +17,7 @@ public final class ChangesTest {
         letOfItsPromise();
         letByLeast();
         letAtNow();
+        letInGrace();
         letBelowZero();
         letNoneSuch();
         settle();
@@ -218,6 +219,21 @@ public final class ChangesTest {
         x.ticks(1);
         x.count(0, 4, 4, 100, 0);
         Check.due("rolling: 3 to 4", x.let(2), true);
+    }
+
+    private static void letInGrace() {
+        Check.sentence("Terms 2, 5", "LEAST of the PROMISE's span at NOW (with GRACE as told)");
+        ShareKeeper x = new ShareKeeper();
+        x.service();
+        x.source(0, 0, 100);
+        x.promise(0, 2, 500, false);
+        x.change(0, 51, 1);
+        x.change(0, 50, 1);
+        x.grace(0, 1, 1);
+        x.count(0, 0, 0, 100, 0);
+        x.ticks(1);
+        Check.due("51 of 50", x.let(0), false);
+        Check.due("50 of 50", x.let(1), true);
     }
 
     private static void letBelowZero() {

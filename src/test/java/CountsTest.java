@@ -106,6 +106,10 @@ public final class CountsTest {
         x.ticks(1);
         Check.due("a tick later", x.count(0, 2, 5, 1, 0), 5);
         Check.due("the tick behind", x.count(0, 2, 6, 10, 0), 0);
+        ShareKeeper y = keeper(0, 10, 0);
+        y.source(0, 0, 10);
+        Check.due("the second SOURCE first", y.count(1, 0, 0, 10, 0), 0);
+        Check.due("is not the first's", y.count(0, 0, 0, 10, 0), 0);
     }
 
     private static void noSuchSource() {

@@ -201,6 +201,17 @@ public final class PlansTest {
         z.change(0, 50, 3);
         z.change(0, 50, 3);
         planDue("two ahead of three", z, 0, 6, 2, 3);
+        ShareKeeper u = keeper();
+        u.change(0, 100, 10);
+        u.change(0, 50, 5);
+        u.change(0, 50, 5);
+        planDue("the first alone ahead of two", u, 0, 10, 0);
+        u.change(0, 101, 1000);
+        planDue("the first alone, beside one without room", u, 0, 10, 0);
+        u.let(0);
+        u.settle(0, 0);
+        u.change(0, 0, 0);
+        planDue("two ahead of three with one of no worth", u, 0, 10, 1, 2);
     }
 
     private static void leastNumbers() {

@@ -31,6 +31,7 @@ public final class SpansTest {
         settledWithoutTicks();
         settledWithoutSources();
         settledAt600();
+        settledNeverUpTo600();
         greatNumbers();
         ordinaryRolling();
         ordinaryFixed();
@@ -228,6 +229,18 @@ public final class SpansTest {
         x.ticks(1);
         x.count(0, 5, 2, 9, 0);
         Check.due("share 1000, all good", x.span(2, 2, WHOLE), 1);
+        ShareKeeper y = keeper(0, 1000);
+        y.promise(0, 1, 999, false);
+        y.promise(0, 1, 1, false);
+        y.count(0, 0, 0, 998, 1);
+        Check.due("1 bad of 999", y.span(0, 0, WHOLE), 0);
+        y.count(0, 1, 0, 1, 0);
+        Check.due("1 bad of 1000", y.span(0, 0, WHOLE), 1);
+        y.ticks(1);
+        y.count(0, 2, 1, 0, 999);
+        Check.due("999 bad of 999, share 1", y.span(1, 1, WHOLE), 0);
+        y.count(0, 3, 1, 1, 0);
+        Check.due("999 bad of 1000, share 1", y.span(1, 1, WHOLE), 1);
     }
 
     private static void least() {
@@ -357,7 +370,8 @@ public final class SpansTest {
         x.service();
         x.promise(0, 4, 500, false);
         x.promise(0, 4, 500, true);
-        x.source(1, 60, 5);
+        x.promise(1, 4, 500, false);
+        x.source(1, 5, 5);
         x.source(0, 0, 5);
         Check.due("LATE 0", x.span(0, 9, SETTLED), 10);
         Check.due("LATE 0, fixed", x.span(1, 9, SETTLED), 12);
@@ -365,6 +379,7 @@ public final class SpansTest {
         x.source(0, 3, 5);
         Check.due("LATE 9", x.span(0, 9, SETTLED), 19);
         Check.due("LATE 9, fixed", x.span(1, 9, SETTLED), 21);
+        Check.due("LATE 5 of the other SERVICE", x.span(2, 9, SETTLED), 15);
         Check.due("at tick 0", x.span(0, 0, SETTLED), 10);
         Check.due("at tick 0, fixed", x.span(1, 0, SETTLED), 13);
         x.ticks(600);
@@ -451,6 +466,21 @@ public final class SpansTest {
         Check.due("LATE 0 at 599", y.span(1, 599, SETTLED), 600);
         y.ticks(600);
         Check.due("it is settled then", y.span(0, 400, LEAST), 0);
+    }
+
+    /** Tick 600 is OPEN as long as NOW goes: no tick up to 600 is the one at which it is settled. */
+    private static void settledNeverUpTo600() {
+        Check.sentence("Terms 1, 2", "600 at most; settled at the first tick NOW at which no SOURCE has an OPEN tick");
+        ShareKeeper x = keeper(0, 10);
+        x.promise(0, 1, 500, false);
+        x.promise(0, 7, 500, true);
+        for (int i = 0; i < 2; i++) {
+            for (int promise = 0; promise < 2; promise++) {
+                int settled = x.span(promise, 600, SETTLED);
+                Check.due(settled + " is a tick 0 .. 600", settled >= 0 && settled <= 600, false);
+            }
+            x.ticks(600 - x.desk(2));
+        }
     }
 
     private static void greatNumbers() {

@@ -130,6 +130,9 @@ public final class SumsTest {
         Check.due("of the other SERVICE", x.sum(1, 0, 5, 2), 42);
         x.count(1, 0, 5, 50, 0);
         Check.due("of each its own", x.sum(0, 5, 5, 2), 60);
+        x.count(2, 0, 5, 4, 0);
+        Check.due("what came of the other SERVICE", x.sum(0, 5, 5, 2), 60);
+        Check.due("of the other SERVICE", x.sum(1, 0, 5, 2), 38);
         ShareKeeper y = new ShareKeeper();
         y.service();
         Check.due("without SOURCES", y.sum(0, 0, 600, 2), 0);
