@@ -16,6 +16,7 @@ public final class AlarmsTest {
         ringsWithEdgesOfShare();
         ringsWithGreatNumbers();
         ringsAboveNow();
+        ringsBeforeItWasMade();
         ringsNone();
         soonest();
         soonestWithM();
@@ -279,6 +280,18 @@ public final class AlarmsTest {
         Check.due("at 600", x.rings(0, 600), 1);
         Check.due("at 599", x.rings(0, 599), 0);
         Check.due("at 0", x.rings(0, 0), 0);
+    }
+
+    private static void ringsBeforeItWasMade() {
+        Check.sentence("Promise 14", "Whether an ALARM rings at a tick (0 .. 600)");
+        ShareKeeper x = keeper(900);
+        x.count(0, 0, 0, 0, 5);
+        x.ticks(100);
+        x.count(0, 1, 50, 0, 5);
+        x.alarm(0, 1, 1, 20);
+        Check.due("tick 0, at NOW 100", x.rings(0, 0), 1);
+        Check.due("tick 50, at NOW 100", x.rings(0, 50), 1);
+        Check.due("tick 100, at NOW 100", x.rings(0, 100), 0);
     }
 
     private static void ringsNone() {

@@ -3,6 +3,7 @@ public final class BestAlarmTest {
     public static void main(String[] args) {
         nothingHasCome();
         longSpansTo12();
+        longSpansFullOfBadOnes();
         shortSpansToA();
         longestShortSpan();
         ratesFrom10();
@@ -59,6 +60,29 @@ public final class BestAlarmTest {
         Check.due("11 ticks ahead", x.best(0, 100, 2, 100), 12001010);
         x.count(0, 3, 10, 90, 0);
         Check.due("10 ticks ahead", x.best(0, 100, 2, 100), 11001010);
+    }
+
+    /**
+     * Eleven ticks of bad ones alone behind a good tick. At the least rate that a - 1 bad ticks of a are not
+     * above, a span of a ticks is above at 12 - a ticks, in the history first when it holds bad ticks alone.
+     */
+    private static void longSpansFullOfBadOnes() {
+        Check.sentence("Terms 4", "of a 1 .. 12: letting p pass at most, and rings at the fewest ticks");
+        ShareKeeper x = keeper(905);
+        x.ticks(20);
+        x.count(0, 0, 0, 10, 0);
+        for (int t = 1; t <= 11; t++) {
+            x.count(0, t, t, 0, 10);
+        }
+        x.count(0, 12, 12, 1000, 0);
+        int[] rates = {10, 60, 80, 80, 90, 90, 100, 100, 100, 100, 100, 100};
+        for (int a = 1; a <= 12; a++) {
+            int due = 1000000 * a + 1000 + rates[a - 1];
+            Check.due("p " + 10 * a, x.best(0, 20, 10, 10 * a), due);
+            Check.due("p " + (10 * a + 9), x.best(0, 20, 10, 10 * a + 9), due);
+        }
+        Check.due("p 9", x.best(0, 20, 10, 9), Check.NONE);
+        Check.due("p 100000", x.best(0, 20, 10, 100000), 12001100);
     }
 
     private static void shortSpansToA() {

@@ -7,6 +7,7 @@ public final class BrokenTest {
         aboveNow();
         ticksOfFixedSpans();
         graceIsLeftOut();
+        spansAtTicksOfGrace();
         firstAndLastTick();
         noneUpTo600();
         noSuchPromise();
@@ -129,6 +130,26 @@ public final class BrokenTest {
         Check.due("until 12", x.broken(0, 12), 12);
         Check.due("and no more", x.broken(0, 13), Check.NONE);
         Check.due("fixed", x.broken(1, 0), 8);
+    }
+
+    /** A tick of GRACE is left out of spans, but has a span of its own. */
+    private static void spansAtTicksOfGrace() {
+        Check.sentence("Terms 2, Promise 10", "The first tick .. whose span is not whole (ticks of GRACE)");
+        ShareKeeper x = keeper(60, 1000);
+        x.promise(0, 3, 900, false);
+        x.promise(0, 10, 900, true);
+        x.grace(0, 6, 7);
+        x.grace(1, 10, 12);
+        x.ticks(5);
+        x.count(0, 0, 5, 0, 1);
+        Check.due("rolling, from the first of GRACE", x.broken(0, 6), 6);
+        Check.due("rolling, from the last of GRACE", x.broken(0, 7), 7);
+        Check.due("rolling, behind it", x.broken(0, 8), Check.NONE);
+        x.ticks(8);
+        x.count(0, 1, 13, 0, 1);
+        Check.due("fixed, from the first of GRACE", x.broken(1, 10), 10);
+        Check.due("fixed, from the last of GRACE", x.broken(1, 12), 12);
+        Check.due("fixed, behind it", x.broken(1, 20), Check.NONE);
     }
 
     private static void firstAndLastTick() {

@@ -23,6 +23,7 @@ public final class ChangesTest {
         settle();
         settleOnlyWhenOut();
         costs();
+        costBesideGuess();
         costTakesNoRoom();
         settleNoneSuch();
         looks();
@@ -309,6 +310,19 @@ public final class ChangesTest {
         stateDue(x, 0, SETTLED);
         Check.due("cost 100000", x.settle(1, 100000), true);
         Check.due("it is kept", x.look(1, 4), 100000);
+    }
+
+    private static void costBesideGuess() {
+        Check.sentence("Terms 5, Promise 22", "SETTLED with what it cost");
+        ShareKeeper x = keeper();
+        int[] costs = {0, 1, 9, 10, 11, 99999};
+        for (int i = 0; i < costs.length; i++) {
+            x.change(0, 10, 1);
+            x.let(i);
+            Check.due("settle(" + i + ", " + costs[i] + ")", x.settle(i, costs[i]), true);
+            Check.due("cost " + costs[i] + " of a guess of 10", x.look(i, 4), costs[i]);
+            Check.due("the guess stays", x.look(i, 2), 10);
+        }
     }
 
     private static void costTakesNoRoom() {

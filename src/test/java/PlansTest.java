@@ -243,6 +243,14 @@ public final class PlansTest {
         x.change(0, 50, 5);
         x.change(0, 40, 5);
         planDue("0 and 3, not 1 and 2", x, 0, 10, 0, 3);
+        ShareKeeper v = keeper();
+        v.change(0, 60, 5);
+        v.change(0, 50, 5);
+        v.change(0, 50, 5);
+        v.change(0, 50, 5);
+        v.change(0, 41, 5);
+        v.change(0, 40, 5);
+        planDue("0 and 5, though 1 and 2 are less together", v, 0, 10, 0, 5);
         ShareKeeper y = keeper();
         y.change(0, 80, 5);
         y.change(0, 10, 5);

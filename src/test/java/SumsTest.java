@@ -8,6 +8,7 @@ public final class SumsTest {
         openAtTheEnd();
         whatHasNotCome();
         openOfSources();
+        openOfNewSource();
         greatSums();
         noSuchService();
         noSuchWhat();
@@ -136,6 +137,18 @@ public final class SumsTest {
         ShareKeeper y = new ShareKeeper();
         y.service();
         Check.due("without SOURCES", y.sum(0, 0, 600, 2), 0);
+    }
+
+    private static void openOfNewSource() {
+        Check.sentence("Terms 1", "OPEN is a tick of a SOURCE (one that is told later)");
+        ShareKeeper x = keeper(2, 10, 100);
+        Check.due("of the first alone", x.sum(0, 0, 100, 2), 30);
+        x.source(0, 60, 3);
+        Check.due("of both", x.sum(0, 0, 100, 2), 30 + 61 * 3);
+        Check.due("40", x.sum(0, 40, 40, 2), 3);
+        Check.due("39", x.sum(0, 39, 39, 2), 0);
+        Check.due("a count of 40", x.count(1, 0, 40, 0, 2), 0);
+        Check.due("what has not come of 40", x.sum(0, 40, 40, 2), 1);
     }
 
     private static void greatSums() {
