@@ -15,6 +15,7 @@ public final class AlarmsTest {
         ringsOfItsService();
         ringsWithEdgesOfShare();
         ringsWithGreatNumbers();
+        ringsAtGreatRates();
         ringsAboveNow();
         ringsBeforeItWasMade();
         ringsNone();
@@ -265,6 +266,28 @@ public final class AlarmsTest {
         Check.due("all of 320000 bad, SHARE 999 at 100.0", x.rings(2, 20), 1);
     }
 
+    private static void ringsAtGreatRates() {
+        Check.sentence("Terms 4", "a rate r (1 .. 1000 tenths)");
+        ShareKeeper x = keeper(999);
+        x.alarm(0, 1, 1, 1000);
+        x.alarm(0, 1, 1, 999);
+        x.alarm(0, 1, 1, 257);
+        x.alarm(0, 1, 1, 1);
+        x.count(0, 0, 0, 900, 100);
+        Check.due("100 bad of 1000 at 100.0", x.rings(0, 0), 0);
+        Check.due("100 bad of 1000 at 99.9", x.rings(1, 0), 1);
+        x.ticks(1);
+        x.count(0, 1, 1, 899, 101);
+        Check.due("101 bad of 1000 at 100.0", x.rings(0, 1), 1);
+        x.ticks(1);
+        x.count(0, 2, 2, 975, 25);
+        Check.due("25 bad of 1000 at 25.7", x.rings(2, 2), 0);
+        Check.due("25 bad of 1000 at 0.1", x.rings(3, 2), 1);
+        x.ticks(1);
+        x.count(0, 3, 3, 974, 26);
+        Check.due("26 bad of 1000 at 25.7", x.rings(2, 3), 1);
+    }
+
     private static void ringsAboveNow() {
         Check.sentence("Promise 14", "Whether an ALARM rings at a tick (0 .. 600): 1 or 0");
         ShareKeeper x = keeper(900);
@@ -379,6 +402,10 @@ public final class AlarmsTest {
         Check.due("1386 bad of 2000 at 497", x.soonest(2, 300, 7, 0), 497);
         Check.due("21 bad of 2000 at 320", x.soonest(1, 300, 1, 0), 320);
         Check.due("it lets pass", x.soonest(1, 300, 1, 1), 21);
+        ShareKeeper y = keeper(990);
+        y.alarm(0, 200, 200, 999);
+        Check.due("2000 bad of 2000 at 499", y.soonest(0, 300, 10, 0), 499);
+        Check.due("it lets pass", y.soonest(0, 300, 10, 1), 2000);
     }
 
     private static void soonestKnowsNoCounts() {

@@ -12,6 +12,7 @@ public final class ChangesTest {
         changesFull();
         waitingAtFirst();
         letIfRoom();
+        letGreatGuesses();
         letWhileWaiting();
         letLessThoseOut();
         letOfItsPromise();
@@ -129,6 +130,32 @@ public final class ChangesTest {
         Check.due("100 of 100", x.let(1), true);
         stateDue(x, 1, OUT);
         Check.due("99 of 100", x.let(2), true);
+    }
+
+    /** The room is 102000: all asks may be bad, and none is. */
+    private static void letGreatGuesses() {
+        Check.sentence("Terms 5, Promise 18", "a guess (0 .. 100000); LEAST, less the guesses that are OUT, is not below it");
+        ShareKeeper x = new ShareKeeper();
+        x.service();
+        x.source(0, 60, 1000);
+        x.source(0, 60, 1000);
+        x.promise(0, 200, 0, false);
+        x.ticks(60);
+        for (int t = 0; t <= 50; t++) {
+            x.count(0, t, t, 1000, 0);
+            x.count(1, t, t, 1000, 0);
+        }
+        x.change(0, 100000, 1);
+        x.change(0, 2001, 1);
+        x.change(0, 2000, 1);
+        x.change(0, 100000, 1);
+        Check.due("room", x.span(0, 60, 1), 102000);
+        Check.due("100000 of 102000", x.let(0), true);
+        Check.due("100000 of 2000", x.let(3), false);
+        x.change(0, 65536, 1);
+        Check.due("65536 of 2000", x.let(4), false);
+        Check.due("2001 of 2000", x.let(1), false);
+        Check.due("2000 of 2000", x.let(2), true);
     }
 
     private static void letWhileWaiting() {

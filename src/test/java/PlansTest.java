@@ -14,6 +14,7 @@ public final class PlansTest {
         leastNumbers();
         firstAhead();
         greatNumbers();
+        greatGuesses();
         itChangesNothing();
         noSuchPromise();
         planned();
@@ -289,6 +290,30 @@ public final class PlansTest {
         }
         Check.due("room", x.span(0, 20, 1), 16000);
         planDue("all but the last", x, 0, 13000, 0, 1, 2, 3, 4, 5, 6, 7, 8, 9, 10, 11, 12);
+    }
+
+    /** The room is 102000: all asks may be bad, and none is. */
+    private static void greatGuesses() {
+        Check.sentence("Terms 5", "a guess (0 .. 100000); guesses together are not above that room");
+        ShareKeeper x = new ShareKeeper();
+        x.service();
+        x.source(0, 60, 1000);
+        x.source(0, 60, 1000);
+        x.promise(0, 200, 0, false);
+        x.ticks(60);
+        for (int t = 0; t <= 50; t++) {
+            x.count(0, t, t, 1000, 0);
+            x.count(1, t, t, 1000, 0);
+        }
+        x.change(0, 2001, 5);
+        x.change(0, 100000, 5);
+        planDue("one of them", x, 0, 5, 0);
+        x.change(0, 2000, 4);
+        planDue("100000 and 2000, or 2001 and 2000", x, 0, 9, 0, 2);
+        x.change(0, 100000, 6);
+        planDue("2001 beside 100000 is too much", x, 0, 10, 2, 3);
+        x.change(0, 99999, 5);
+        planDue("99999 and 2001, or 100000 and 2000", x, 0, 10, 0, 4);
     }
 
     private static void itChangesNothing() {
