@@ -26,6 +26,7 @@ public final class ChangesTest {
         costs();
         costBesideGuess();
         costTakesNoRoom();
+        roomAfterSettling();
         settleNoneSuch();
         looks();
         lookNoneSuch();
@@ -361,6 +362,31 @@ public final class ChangesTest {
         Check.due("100 of 40", x.let(1), false);
         x.settle(0, 100000);
         Check.due("100 of 100", x.let(1), true);
+    }
+
+    /** What came since takes room from under those that are OUT; each that is SETTLED gives its guess back. */
+    private static void roomAfterSettling() {
+        Check.sentence("Terms 5", "LEAST .. at NOW, less the guesses of its CHANGES that are OUT (fallen below them)");
+        ShareKeeper x = new ShareKeeper();
+        x.service();
+        x.source(0, 0, 1000);
+        x.promise(0, 2, 900, false);
+        x.count(0, 0, 0, 1000, 0);
+        x.change(0, 60, 1);
+        x.change(0, 40, 1);
+        x.change(0, 31, 1);
+        x.change(0, 30, 1);
+        x.let(0);
+        x.let(1);
+        x.ticks(1);
+        x.count(0, 1, 1, 830, 170);
+        Check.due("LEAST", x.span(0, 1, 1), 30);
+        Check.due("30 of 30 less 100", x.let(3), false);
+        Check.due("what is OUT is settled all the same", x.settle(0, 5), true);
+        Check.due("30 of 30 less 40", x.let(3), false);
+        Check.due("the other, too", x.settle(1, 5), true);
+        Check.due("31 of 30", x.let(2), false);
+        Check.due("30 of 30", x.let(3), true);
     }
 
     private static void settleNoneSuch() {
